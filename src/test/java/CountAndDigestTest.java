@@ -7,6 +7,7 @@ public final class CountAndDigestTest {
         latestFinding();
         emptyDigest();
         digests();
+        digestsOfMuch();
         DUE.end();
     }
 
@@ -75,6 +76,28 @@ public final class CountAndDigestTest {
         x.type(0, ';');
         DUE.is(34, "digest() with a fault", x.digest(), ofAnswers(x));
         DUE.is(34, "digest() changes", x.digest() == before ? 1 : 0, 0);
+    }
+
+    /** A duchy of which no answer is like another one that the digest might ask for in its place. */
+    private static void digestsOfMuch() {
+        MarriedMap x = Due.duchy("80;90", "m090;m030;m020;w110;w110;w110;m030;w160;m050;w120");
+        x.wed(0, 6, 7, 12);
+        x.wed(0, 8, 9, 12);
+        x.wed(0, 2, 3, 12);
+        x.ends(0, 0, 2);
+        x.survey(0, 2, 80);
+        x.survey(5, 0, 0);
+        DUE.is(17, "reach(0, 149)", x.reach(0, 149), 2);
+        DUE.is(17, "reach(0, 150)", x.reach(0, 150), 2);
+        DUE.is(17, "reach(0, 151)", x.reach(0, 151), 3);
+        DUE.is(18, "grows(0, 1)", x.grows(0, 1), 136);
+        DUE.is(18, "grows(0, 2)", x.grows(0, 2), 150);
+        DUE.is(18, "grows(0, 3)", x.grows(0, 3), 157);
+        DUE.is(19, "leave()", x.leave(), 1);
+        DUE.is(22, "forged(6)", x.forged(6), 1 << 2);
+        DUE.is(16, "nobody(4)", x.nobody(4), 1);
+        DUE.is(23, "unlike()", x.unlike(), 1);
+        DUE.is(34, "digest()", x.digest(), ofAnswers(x));
     }
 
     static long ofAnswers(MarriedMap x) {

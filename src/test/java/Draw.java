@@ -12,9 +12,12 @@ final class Draw {
     private Draw() { }
 
     static String lands(Random random) {
-        StringBuilder text = new StringBuilder();
         int number = random.nextInt(20) == 0 ? random.nextInt(8) : 2 + random.nextInt(4);
-        int widest = random.nextBoolean() ? 100 : 30;
+        return landsOf(random, number, random.nextBoolean() ? 100 : 30);
+    }
+
+    static String landsOf(Random random, int number, int widest) {
+        StringBuilder text = new StringBuilder();
         for (int land = 0; land < number; land++) {
             int width = random.nextInt(widest);
             text.append(land == 0 ? "" : ";").append(width / 10).append(width % 10);
@@ -30,6 +33,16 @@ final class Draw {
             text.append(person == 0 ? "" : ";").append(random.nextBoolean() ? 'm' : 'w')
                     .append(random.nextInt(random.nextInt(60) == 0 ? 10 : landNumber))
                     .append(1 + random.nextInt(9)).append(random.nextInt(10));
+        }
+        return text.toString();
+    }
+
+    /** One of each of the lands whose figures are told. */
+    static String peopleOf(Random random, String homes) {
+        StringBuilder text = new StringBuilder();
+        for (int person = 0; person < homes.length(); person++) {
+            text.append(person == 0 ? "" : ";").append(random.nextBoolean() ? 'm' : 'w')
+                    .append(homes.charAt(person)).append(1 + random.nextInt(9)).append(random.nextInt(3));
         }
         return text.toString();
     }

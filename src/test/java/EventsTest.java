@@ -15,6 +15,7 @@ public final class EventsTest {
         weddingsMove();
         cloudsMoveNothing();
         partings();
+        partingsOfOneHand();
         deaths();
         lessThanMoved();
         behind();
@@ -107,6 +108,9 @@ public final class EventsTest {
             DUE.is(10, "read(0, 3), the second not as told", x.read(0, 3), 1);
             x.undo();
         }
+        lay(x, 1, 0, 2, 12);
+        DUE.is(10, "read(0, 3) of three items", x.read(0, 3), 1);
+        x.undo();
         lay(x, 1, 0, 2);
         DUE.is(10, "read(0, 3) of two items", x.read(0, 3), 0);
         lay(x, 1);
@@ -269,6 +273,10 @@ public final class EventsTest {
     }
 
     private static void cloudsMoveNothing() {
+        MarriedMap last = duchy();
+        last.cloud(51, 1);
+        last.wed(51, 0, 2, 6);
+        DUE.is(13, "moved(0) under clouds of the last week", last.moved(0), 0);
         MarriedMap x = duchy();
         x.cloud(7, 1);
         x.wed(6, 0, 2, 6);
@@ -305,6 +313,18 @@ public final class EventsTest {
             DUE.is(14, "width(1, 4)", x.width(1, 4), 36);
             DUE.is(14, "width(0, 4)", x.width(0, 4), 47);
         }
+    }
+
+    private static void partingsOfOneHand() {
+        MarriedMap x = Due.duchy("50;40", "m020;w110;m120;w010");
+        x.wed(0, 0, 1, 12);
+        x.ends(0, 0, 0);
+        DUE.is(14, "width(0, 2)", x.width(0, 2), 50);
+        DUE.is(14, "width(1, 2)", x.width(1, 2), 39);
+        x.wed(0, 2, 3, 12);
+        x.ends(0, 0, 2);
+        DUE.is(14, "width(0, 4)", x.width(0, 4), 49);
+        DUE.is(14, "width(1, 4)", x.width(1, 4), 39);
     }
 
     private static void deaths() {

@@ -178,6 +178,7 @@ public final class LandsAndPeopleTest {
         DUE.is(7, "cloud(0, 1)", x.cloud(0, 1), 0);
         DUE.is(7, "cloud(0, 1)", x.cloud(0, 1), 1);
         DUE.is(7, "cloud(51, 1)", x.cloud(51, 1), 0);
+        DUE.is(7, "cloud(51, 1)", x.cloud(51, 1), 1);
         DUE.is(7, "count(6)", x.count(6), 2);
         DUE.is(7, "cloud(0, 0)", x.cloud(0, 0), 1);
         DUE.is(7, "cloud(0, 0)", x.cloud(0, 0), 0);

@@ -1,3 +1,5 @@
+import java.util.Random;
+
 /** Promises 17 to 19. */
 public final class MarryingTest {
     private static final Due DUE = new Due("MarryingTest");
@@ -13,6 +15,7 @@ public final class MarryingTest {
         sixWeddings();
         wrongNumbers();
         leaving();
+        drawn();
         DUE.end();
     }
 
@@ -76,6 +79,10 @@ public final class MarryingTest {
         grown(x, 0, 50, 78, 92);
         x.ends(0, 1, 1);
         grown(x, 0, 50, 71, 71);
+        x.width(0, 0);
+        DUE.is(17, "reach(0, 72)", x.reach(0, 72), MarriedMap.NONE);
+        x.width(0, 0);
+        DUE.is(18, "grows(0, 2)", x.grows(0, 2), 71);
         x.wed(0, 2, 3, 12);
         grown(x, 0, 52, 52, 52);
         x.ends(0, 0, 2);
@@ -113,6 +120,24 @@ public final class MarryingTest {
         }
     }
 
+    /** Four of a land with three of each neighbour, against every row of weddings. */
+    private static void drawn() {
+        for (int run = 0; run < 150; run++) {
+            Random random = new Random(run);
+            String lands = Draw.landsOf(random, 3, run % 2 == 0 ? 40 : 100);
+            String people = Draw.peopleOf(random, "0001111222");
+            MarriedMap x = Due.duchy(lands, people);
+            Model model = new Model();
+            model.tell(lands, people);
+            for (int k = 0; k <= 4; k++) {
+                String call = "grows(1, " + k + ") of " + lands + " " + people;
+                DUE.is(18, call, x.grows(1, k), model.grows(1, k));
+                DUE.is(17, "reach(1, that), " + call, x.reach(1, x.grows(1, k)), model.reach(1, x.grows(1, k)));
+            }
+            DUE.is(17, "reach(1, one more than can be)", x.reach(1, x.grows(1, 4) + 1), MarriedMap.NONE);
+        }
+    }
+
     private static void leaving() {
         DUE.is(19, "leave()", new MarriedMap().leave(), 0);
         leaves("m010;w150;m120;w010", 0);
@@ -127,6 +152,8 @@ public final class MarryingTest {
         three.wed(0, 2, 3, 12);
         three.wed(0, 5, 4, 12);
         DUE.is(19, "leave()", three.leave(), 3);
+        three.width(0, 0);
+        DUE.is(19, "leave() behind another call", three.leave(), 3);
         three.ends(0, 0, 5);
         DUE.is(19, "leave() behind a parting", three.leave(), 1);
         three.ends(0, 1, 3);

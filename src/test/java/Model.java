@@ -62,6 +62,11 @@ final class Model {
         return texts[text].length();
     }
 
+    void tell(String lands, String people) {
+        texts[0] = lands;
+        texts[1] = people;
+    }
+
     int wipe(int text) {
         if (text < 0 || text > 1) {
             return BAD;

@@ -1,3 +1,5 @@
+import java.util.Random;
+
 /** Promise 26. */
 public final class TurnsTest {
     private static final Due DUE = new Due("TurnsTest");
@@ -12,6 +14,7 @@ public final class TurnsTest {
         tooMany();
         behindEvents();
         wrongNumbers();
+        drawn();
         DUE.end();
     }
 
@@ -66,6 +69,7 @@ public final class TurnsTest {
     private static void tooMany() {
         String four = "m011;m011;m011;m011";
         lords(Due.duchy("50;40", four), 0, 1, 10, MarriedMap.NONE);
+        lords(Due.duchy("50;40", four), 1, 0, -10, MarriedMap.NONE);
         MarriedMap x = Due.duchy("50;40;30", four + ";m011");
         lords(x, 0, 1, -10004, -10004);
         lords(x, 1, 0, -10004, -10004);
@@ -92,6 +96,28 @@ public final class TurnsTest {
         x.ends(1, 1, 1);
         lords(x, 0, 1, 10, MarriedMap.NONE);
         DUE.is(33, "count(4): no event more", x.count(4), 3);
+    }
+
+    /** Four against four, so that each lord has a choice in the second turn, too. */
+    private static void drawn() {
+        for (int run = 0; run < 300; run++) {
+            Random random = new Random(run);
+            String lands = Draw.landsOf(random, 2, run % 2 == 0 ? 40 : 100);
+            String people = Draw.peopleOf(random, "00001111");
+            if (run % 3 == 0) {
+                people = people.replace("m0", "w0").replace("w1", "m1");
+            }
+            MarriedMap x = Due.duchy(lands, people);
+            Model model = new Model();
+            model.tell(lands, people);
+            for (int first = 0; first < 2; first++) {
+                int other = 1 - first;
+                DUE.is(26, "lords(" + first + ", " + other + ", 0) of " + lands + " " + people,
+                        x.lords(first, other, 0), model.lords(first, other, 0));
+                DUE.is(26, "lords(" + first + ", " + other + ", 1) of " + lands + " " + people,
+                        x.lords(first, other, 1), model.lords(first, other, 1));
+            }
+        }
     }
 
     private static void wrongNumbers() {
