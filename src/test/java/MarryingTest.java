@@ -147,6 +147,8 @@ public final class MarryingTest {
         leaves("m010;w150;m060;w150", 0);
         leaves("m010;w150;m260;w110", 1);
         leaves("m010;w199;m069;w110", 1);
+        leaves("m060;w110;m010;w150", 1);
+        leaves("w150;m010;w110;m060", 1);
         MarriedMap three = Due.duchy("50;50", "m010;w190;m020;w120;m030;w110");
         three.wed(0, 0, 1, 12);
         three.wed(0, 2, 3, 12);
