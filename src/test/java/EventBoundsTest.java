@@ -468,29 +468,39 @@ public final class EventBoundsTest {
         return "" + width / 10 + width % 10;
     }
 
-    /** "takes the difference of both from the other LAND, or all that this has, if it is less". */
+    /** "takes the difference of both from the other LAND, or all that this has, if it is less": any of both. */
     private static void takesTheDifferenceOrAll() {
-        for (int width = 0; width <= 12; width++) {
-            int moved = Math.min(9, width);
-            for (int order = 0; order < 2; order++) {
-                MarriedMap first = Due.duchy("20;" + two(width), "m091;w110");
-                first.wed(0, order, 1 - order, 12);
-                String told = " of a land of " + width + " that gives 9";
-                DUE.is(13, "moved(0)" + told, first.moved(0), moved);
-                DUE.is(14, "width(0, 1)" + told, first.width(0, 1), 20 + moved);
-                DUE.is(14, "width(1, 1)" + told, first.width(1, 1), width - moved);
-                DUE.is(15, "state(0, 1, 0)" + told, first.state(0, 1, 0), 1);
-                MarriedMap second = Due.duchy(two(width) + ";20", "m010;w191");
-                second.wed(0, order, 1 - order, 12);
-                DUE.is(13, "moved(0)" + told, second.moved(0), -moved);
-                DUE.is(14, "width(0, 1)" + told, second.width(0, 1), width - moved);
-                DUE.is(14, "width(1, 1)" + told, second.width(1, 1), 20 + moved);
+        for (int difference = 0; difference <= 17; difference++) {
+            for (int width = 0; width <= 18; width++) {
+                for (int order = 0; order < 2; order++) {
+                    takes(difference, width, order);
+                }
             }
         }
         MarriedMap most = Due.duchy("99;99", "m099;w110");
         most.wed(0, 0, 1, 6);
         DUE.is(13, "moved(0) of the greatest difference", most.moved(0), 99);
         DUE.is(14, "width(0, 1)", most.width(0, 1), 198);
+    }
+
+    /** From land 1 and from land 0, told in one order or the other. */
+    private static void takes(int difference, int width, int order) {
+        int height = Math.min(9, 1 + difference);
+        String shadow = "" + height + (1 + difference - height);
+        int moved = Math.min(difference, width);
+        String told = " of a land of " + width + " that gives " + difference;
+        MarriedMap first = Due.duchy("20;" + two(width), "m0" + shadow + ";w110");
+        first.wed(0, order, 1 - order, 12);
+        DUE.is(13, "moved(0)" + told, first.moved(0), moved);
+        DUE.is(14, "width(0, 1)" + told, first.width(0, 1), 20 + moved);
+        DUE.is(14, "width(1, 1)" + told, first.width(1, 1), width - moved);
+        DUE.is(15, "state(0, 1, 0)" + told, first.state(0, 1, 0), 1);
+        MarriedMap second = Due.duchy(two(width) + ";20", "m010;w1" + shadow);
+        second.wed(0, order, 1 - order, 12);
+        DUE.is(13, "moved(0)" + told, second.moved(0), -moved);
+        DUE.is(14, "width(0, 1)" + told, second.width(0, 1), width - moved);
+        DUE.is(14, "width(1, 1)" + told, second.width(1, 1), 20 + moved);
+        DUE.is(15, "state(1, 1, 0)" + told, second.state(1, 1, 0), 0);
     }
 
     /** Where no shadow is longer, nothing moves, though they are wed; and where it is by one, one hand does. */
