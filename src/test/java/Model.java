@@ -614,4 +614,29 @@ final class Model {
             behind(events).against.size(), clouded, surveys.size(), finding};
         return what < 0 || what >= counts.length ? BAD : counts[what];
     }
+
+    long digest() {
+        List<Integer> row = new ArrayList<>();
+        for (int what = 0; what <= 7; what++) {
+            row.add(count(what));
+        }
+        row.addAll(List.of(fault(0), fault(1), judged()));
+        for (int event = 0; event < events.size(); event++) {
+            row.addAll(List.of(moved(event), without(event, 0)));
+        }
+        for (int land = 0; land < landNumber(); land++) {
+            row.addAll(List.of(width(land, events.size()), reach(land, 150), grows(land, 2), blame(land),
+                    lords(land, land + 1, 0), lords(land, land + 1, 1)));
+        }
+        for (int p = 0; p < people().size(); p++) {
+            row.addAll(List.of(person(p, 0), person(p, 1), person(p, 2), person(p, 3), shadow(p, 6),
+                    state(p, events.size(), 0), state(p, events.size(), 1), state(p, events.size(), 2), forged(p)));
+        }
+        row.addAll(List.of(nobody(events.size()), leave(), unlike()));
+        long h = 17;
+        for (int answer : row) {
+            h = 31 * h + answer;
+        }
+        return h;
+    }
 }
